@@ -120,6 +120,14 @@ public final class PromiseTest {
         for (int what = 0; what <= 12; what++) {
             Due.is("nothing is left " + what, x.about(1, what), 0);
         }
+        new TapeMaker().kind(0, 255).thing(1, 0).thing(2, 0).row(3, 0, 0).row(4, 0, 0)
+                .root(0, 1).readInto(x, 1);
+        Due.is("groups", x.groups(1), 1);
+        Due.is("grown", x.grown(0, 1, 0), 2);
+        new TapeMaker().row(3, 0, 0).readInto(x, 1);
+        Due.is("groups go", x.groups(1), 0);
+        Due.is("things go", x.grown(0, 1, 0), 0);
+        Due.is("tops go", x.top(1, 0), NONE);
     }
 
     private static void about() {
