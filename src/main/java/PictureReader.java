@@ -20,6 +20,7 @@ public final class PictureReader {
     private static final int MOST_ELEMENTS = 1000;
     private static final int MOST_ROOTS = 100;
     private static final int MOST_REFS_SET = 3000;
+    private static final int MOST_ROUNDS = 1000000;
     private static final int ROOT_SORTS = 10;
     private static final int NO_PARENT = 255;
 
@@ -139,7 +140,8 @@ public final class PictureReader {
 
     public int keeper(int picture, int thing) {
         Picture found = pictureAt(picture);
-        return found == null ? NONE : found.life.keeperOf(found.things.find(thing));
+        return found == null ? NONE
+                : found.life.keeperOf(found.things, found.things.find(thing));
     }
 
     public int kept(int picture, int thing) {
@@ -161,7 +163,7 @@ public final class PictureReader {
         if (id == NONE) {
             return NONE;
         }
-        return trail.lead(found, id, soft == 1);
+        return trail.follow(found.things, soft == 1 ? found.softWays : found.ways, id);
     }
 
     public int step(int k) {
@@ -600,9 +602,7 @@ public final class PictureReader {
 
         private void enlist(int number) {
             int rank = countBelow(number);
-            for (int at = count; at > rank; at--) {
-                byNumber[at] = byNumber[at - 1];
-            }
+            System.arraycopy(byNumber, rank, byNumber, rank + 1, count - rank);
             byNumber[rank] = count;
         }
 
@@ -747,6 +747,16 @@ public final class PictureReader {
             }
             return true;
         }
+
+        /** A number that is the same for things with the same values: most others have another. */
+        int printOf(int id) {
+            int size = valueCount(id);
+            long print = size;
+            for (int k = 0; k < size; k++) {
+                print = print * 31 + valueOf(id, k);
+            }
+            return (int) (print ^ print >>> 32);
+        }
     }
 
     /** The roots of a picture: only where they lead matters. */
@@ -802,49 +812,64 @@ public final class PictureReader {
         }
     }
 
-    /** Goes from the roots along the refs, and tells how far each thing is, the nearest first. */
+    /**
+     * The shortest ways from the roots to all things. The line has the nearest things first, and
+     * of equally near ones those whose ways come first: so whoever reaches a thing first is the
+     * one before it on its way, if only those that one thing reaches stand by their numbers.
+     */
     private static final class Spread {
         private final int[] line;
         private final int[] distances;
+        private final int[] before;
         private int count;
 
         Spread() {
             line = new int[MOST_THINGS];
             distances = new int[MOST_THINGS];
+            before = new int[MOST_THINGS];
             count = 0;
         }
 
-        /** As if the thing without were not there (NONE: all are). */
-        void go(Things things, Roots roots, int without, boolean soft) {
+        void settle(Things things, Roots roots, boolean soft) {
             count = 0;
-            for (int id = 0; id < MOST_THINGS && id < things.size(); id++) {
+            for (int id = 0; id < MOST_THINGS; id++) {
                 distances[id] = 0;
+                before[id] = NONE;
             }
             for (int i = 0; i < roots.size(); i++) {
-                enter(roots.targetAt(i), 1, without);
+                enter(things, roots.targetAt(i), NONE, 0);
             }
             for (int at = 0; at < MOST_THINGS && at < count; at++) {
                 int id = line[at];
                 if (soft || !things.isSoft(id)) {
-                    leave(things, id, without);
+                    leave(things, id);
                 }
             }
         }
 
-        private void leave(Things things, int id, int without) {
+        private void leave(Things things, int id) {
             int refs = things.refCount(id);
+            int first = count;
             for (int k = 0; k < refs; k++) {
-                enter(things.targetOf(id, k), distances[id] + 1, without);
+                enter(things, things.targetOf(id, k), id, first);
             }
         }
 
-        private void enter(int id, int distance, int without) {
-            if (id == without || distanceOf(id) != 0 || count >= MOST_THINGS) {
+        /** Puts a thing that is new into the line, by its number among those from first on. */
+        private void enter(Things things, int id, int from, int first) {
+            if (distanceOf(id) != 0 || count >= MOST_THINGS) {
                 return;
             }
-            distances[id] = distance;
-            line[count] = id;
+            int number = things.numberOf(id);
+            int at = count;
+            while (at > first && things.numberOf(line[at - 1]) > number) {
+                line[at] = line[at - 1];
+                at--;
+            }
+            line[at] = id;
             count++;
+            before[id] = from;
+            distances[id] = from == NONE ? 1 : distances[from] + 1;
         }
 
         int size() {
@@ -855,93 +880,124 @@ public final class PictureReader {
             return at < 0 || at >= count ? NONE : line[at];
         }
 
-        /** How many things the shortest way to a thing has; 0: none leads there; NONE: no thing. */
+        /** How many things the way to a thing has; 0: there is no way; NONE: no such thing. */
         int distanceOf(int id) {
             return id < 0 || id >= MOST_THINGS ? NONE : distances[id];
+        }
+
+        /** The thing before another one on the way to it; NONE: it begins there. */
+        int beforeOf(int id) {
+            return id < 0 || id >= MOST_THINGS ? NONE : before[id];
         }
     }
 
     /** Which things are alive, and what each of them keeps. */
     private static final class Life {
-        private final boolean[] living;
+        // The keeper of each living thing, by its id; NONE: there is none.
         private final int[] keepers;
-        private final int[] kepts;
         private final int[] heights;
-        private final int[] nearest;
+        private final int[] kepts;
         private final int[] ranking;
         private int count;
         private int sizes;
 
         Life() {
-            living = new boolean[MOST_THINGS];
             keepers = new int[MOST_THINGS];
-            kepts = new int[MOST_THINGS];
             heights = new int[MOST_THINGS];
-            nearest = new int[MOST_THINGS];
+            kepts = new int[MOST_THINGS];
             ranking = new int[MOST_THINGS];
             count = 0;
             sizes = 0;
         }
 
-        void settle(Things things, Roots roots, Spread spread) {
-            int all = Math.min(things.size(), MOST_THINGS);
-            count = 0;
-            sizes = 0;
-            spread.go(things, roots, NONE, false);
+        void settle(Things things, Spread spread) {
             for (int id = 0; id < MOST_THINGS; id++) {
-                living[id] = id < all && spread.distanceOf(id) > 0;
-                keepers[id] = 0;
-                kepts[id] = 0;
+                keepers[id] = spread.beforeOf(id);
                 heights[id] = 0;
-                nearest[id] = MOST_THINGS + 1;
+                kepts[id] = things.sizeOf(id);
             }
-            for (int id = 0; id < all; id++) {
-                if (living[id]) {
-                    sizes += things.sizeOf(id);
-                    spread.go(things, roots, id, false);
-                    lose(things, spread, id);
-                }
+            boolean moved = true;
+            for (int round = 0; moved && round < MOST_ROUNDS; round++) {
+                moved = moveKeepers(things, spread);
             }
-            for (int rank = 0; rank < all; rank++) {
-                seat(things.idByRank(rank));
-            }
+            measure(things, spread);
+            rank(things);
         }
 
         /**
-         * Accounts for what is not reached without a thing. Of all that x needs, the nearest is
-         * the one without which the fewest are lost: whatever is lost with the nearest is also
-         * lost with the others, and each of these itself besides.
+         * A keeper stands on every way to its thing. So it is looked for on the shortest way,
+         * from its end on, and goes back as long as some ref leads past it: to the last thing
+         * that the keepers of both ways, so far as they are known, have in common.
          */
-        private void lose(Things things, Spread spread, int without) {
-            int lost = 0;
-            for (int id = 0; id < MOST_THINGS && id < things.size(); id++) {
-                if (living[id] && spread.distanceOf(id) == 0) {
-                    lost++;
-                    heights[id]++;
-                    kepts[without] += things.sizeOf(id);
+        private boolean moveKeepers(Things things, Spread spread) {
+            boolean moved = false;
+            for (int at = 0; at < spread.size(); at++) {
+                int from = spread.idAt(at);
+                int refs = things.isSoft(from) ? 0 : things.refCount(from);
+                for (int k = 0; k < refs; k++) {
+                    int to = things.targetOf(from, k);
+                    int keeper = keeperIdOf(to);
+                    int shared = keeper == NONE ? NONE : lastShared(spread, keeper, from);
+                    if (shared != keeper) {
+                        keepers[to] = shared;
+                        moved = true;
+                    }
                 }
             }
-            for (int id = 0; id < MOST_THINGS && id < things.size(); id++) {
-                if (living[id] && spread.distanceOf(id) == 0 && id != without
-                        && lost < nearest[id]) {
-                    nearest[id] = lost;
-                    keepers[id] = things.numberOf(without);
+            return moved;
+        }
+
+        /** A keeper is nearer to the roots than its thing, so the farther of two goes back. */
+        private int lastShared(Spread spread, int one, int other) {
+            int a = one;
+            int b = other;
+            for (int i = 0; i < 2 * MOST_THINGS && a != b; i++) {
+                if (spread.distanceOf(a) >= spread.distanceOf(b)) {
+                    a = keeperIdOf(a);
+                } else {
+                    b = keeperIdOf(b);
+                }
+            }
+            return a;
+        }
+
+        private int keeperIdOf(int id) {
+            return id < 0 || id >= MOST_THINGS ? NONE : keepers[id];
+        }
+
+        /** In the line of the ways each keeper stands before all that it keeps. */
+        private void measure(Things things, Spread spread) {
+            sizes = 0;
+            for (int at = 0; at < spread.size(); at++) {
+                int id = spread.idAt(at);
+                int keeper = keeperIdOf(id);
+                sizes += things.sizeOf(id);
+                heights[id] = keeper == NONE ? 1 : heights[keeper] + 1;
+            }
+            for (int at = spread.size() - 1; at >= 0; at--) {
+                int id = spread.idAt(at);
+                int keeper = keeperIdOf(id);
+                if (keeper != NONE) {
+                    kepts[keeper] += kepts[id];
                 }
             }
         }
 
         /** Things come by rising numbers, so one goes behind all that have kept as much. */
-        private void seat(int id) {
-            if (!lives(id) || count >= MOST_THINGS) {
-                return;
+        private void rank(Things things) {
+            count = 0;
+            for (int next = 0; next < things.size(); next++) {
+                int id = things.idByRank(next);
+                if (lives(id) && count < MOST_THINGS) {
+                    int at = count;
+                    while (at > 0 && kepts[ranking[at - 1]] < kepts[id]) {
+                        ranking[at] = ranking[at - 1];
+                        at--;
+                    }
+                    ranking[at] = id;
+                    count++;
+                }
             }
-            int at = count;
-            while (at > 0 && kepts[ranking[at - 1]] < kepts[id]) {
-                ranking[at] = ranking[at - 1];
-                at--;
-            }
-            ranking[at] = id;
-            count++;
         }
 
         int size() {
@@ -953,11 +1009,15 @@ public final class PictureReader {
         }
 
         boolean lives(int id) {
-            return id >= 0 && id < MOST_THINGS && living[id];
+            return id >= 0 && id < MOST_THINGS && heights[id] > 0;
         }
 
-        int keeperOf(int id) {
-            return lives(id) ? keepers[id] : NONE;
+        /** The number of the keeper of a living thing. */
+        int keeperOf(Things things, int id) {
+            if (!lives(id)) {
+                return NONE;
+            }
+            return keepers[id] == NONE ? 0 : things.numberOf(keepers[id]);
         }
 
         int keptOf(int id) {
@@ -977,11 +1037,13 @@ public final class PictureReader {
     private static final class Twins {
         private final int[] heads;
         private final int[] members;
+        private final int[] prints;
         private int count;
 
         Twins() {
             heads = new int[MOST_THINGS];
             members = new int[MOST_THINGS];
+            prints = new int[MOST_THINGS];
             count = 0;
         }
 
@@ -996,8 +1058,9 @@ public final class PictureReader {
         }
 
         private void join(Things things, int id) {
+            int print = things.printOf(id);
             for (int i = 0; i < count; i++) {
-                if (things.sameSort(heads[i], things, id)
+                if (prints[i] == print && things.sameSort(heads[i], things, id)
                         && things.sameValues(heads[i], things, id)) {
                     members[i]++;
                     return;
@@ -1006,6 +1069,7 @@ public final class PictureReader {
             if (count < MOST_THINGS) {
                 heads[count] = id;
                 members[count] = 1;
+                prints[count] = print;
                 count++;
             }
         }
@@ -1049,7 +1113,8 @@ public final class PictureReader {
         private final Things things;
         private final Roots roots;
         private final Holes holes;
-        private final Spread spread;
+        private final Spread ways;
+        private final Spread softWays;
         private final Life life;
         private final Twins twins;
         private int bytes;
@@ -1062,7 +1127,8 @@ public final class PictureReader {
             things = new Things();
             roots = new Roots();
             holes = new Holes();
-            spread = new Spread();
+            ways = new Spread();
+            softWays = new Spread();
             life = new Life();
             twins = new Twins();
             bytes = 0;
@@ -1093,7 +1159,9 @@ public final class PictureReader {
             }
             things.connect();
             roots.connect(things);
-            life.settle(things, roots, spread);
+            ways.settle(things, roots, false);
+            softWays.settle(things, roots, true);
+            life.settle(things, ways);
             twins.settle(things);
         }
 
@@ -1239,12 +1307,10 @@ public final class PictureReader {
     /** The way that was found last: by its numbers, so that it outlives its picture. */
     private static final class Trail {
         private final int[] numbers;
-        private final boolean[] leads;
         private int length;
 
         Trail() {
             numbers = new int[MOST_THINGS];
-            leads = new boolean[MOST_THINGS];
             length = 0;
         }
 
@@ -1252,75 +1318,19 @@ public final class PictureReader {
             return k < 0 || k >= length ? NONE : numbers[k];
         }
 
-        /** Finds the shortest way to a thing: how many things it has; 0 if there is none. */
-        int lead(Picture picture, int id, boolean soft) {
-            Things things = picture.things;
-            Spread spread = picture.spread;
-            spread.go(things, picture.roots, NONE, soft);
+        /** Follows the way to a thing, from its end: how many things it has; 0: none, no way. */
+        int follow(Things things, Spread spread, int id) {
             int distance = spread.distanceOf(id);
             if (distance <= 0 || distance > MOST_THINGS) {
                 return 0;
             }
-            mark(things, spread, id, soft);
             length = distance;
-            int at = firstLeading(things, picture.roots);
-            numbers[0] = things.numberOf(at);
-            for (int k = 1; k < distance; k++) {
-                at = nextLeading(things, spread, at);
+            int at = id;
+            for (int k = distance - 1; k >= 0; k--) {
                 numbers[k] = things.numberOf(at);
+                at = spread.beforeOf(at);
             }
             return length;
-        }
-
-        /** Marks the things on the shortest ways to an end, from it backwards. */
-        private void mark(Things things, Spread spread, int end, boolean soft) {
-            for (int id = 0; id < MOST_THINGS; id++) {
-                leads[id] = id == end;
-            }
-            for (int at = spread.size() - 1; at >= 0; at--) {
-                int id = spread.idAt(at);
-                boolean passable = soft || !things.isSoft(id);
-                if (isThing(id) && passable && nextLeading(things, spread, id) != NONE) {
-                    leads[id] = true;
-                }
-            }
-        }
-
-        private boolean isThing(int id) {
-            return id >= 0 && id < MOST_THINGS;
-        }
-
-        private boolean leading(int id) {
-            return isThing(id) && leads[id];
-        }
-
-        private int firstLeading(Things things, Roots roots) {
-            int best = NONE;
-            for (int i = 0; i < roots.size(); i++) {
-                best = better(things, best, roots.targetAt(i));
-            }
-            return best;
-        }
-
-        /** The leading thing of the least number, of those one step farther than a thing. */
-        private int nextLeading(Things things, Spread spread, int id) {
-            int farther = spread.distanceOf(id) + 1;
-            int refs = things.refCount(id);
-            int best = NONE;
-            for (int k = 0; k < refs; k++) {
-                int target = things.targetOf(id, k);
-                if (spread.distanceOf(target) == farther) {
-                    best = better(things, best, target);
-                }
-            }
-            return best;
-        }
-
-        private int better(Things things, int best, int id) {
-            if (!leading(id)) {
-                return best;
-            }
-            return best == NONE || things.numberOf(id) < things.numberOf(best) ? id : best;
         }
     }
 }

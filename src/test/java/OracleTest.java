@@ -21,6 +21,11 @@ public final class OracleTest {
     public static void main(String[] args) {
         int small = args.length > 0 ? Integer.parseInt(args[0]) : 400;
         int large = args.length > 1 ? Integer.parseInt(args[1]) : 12;
+        for (int seed = 0; seed < 2 * small; seed++) {
+            OracleTest test = new OracleTest(2000000L + seed);
+            test.most = 2 + seed % 35;
+            test.readAndCompare(0, test.makeNet());
+        }
         for (int seed = 0; seed < small; seed++) {
             OracleTest test = new OracleTest(seed);
             test.run(3 + seed % 40, 40 + seed * 3 % 900);
@@ -43,18 +48,50 @@ public final class OracleTest {
                 tape = tear(tape);
             }
             before = tape;
-            TapeMaker.feed(reader, tape);
-            naive.read(picture, tape);
-            Due.is(name + "read", reader.read(picture), naive.about(picture, 1));
-        }
-        for (int picture = 0; picture < 3; picture++) {
-            compare(picture);
+            readAndCompare(picture, tape);
         }
         for (int first = 0; first < 3; first++) {
             for (int second = 0; second < 3; second++) {
                 compareBoth(first, second);
             }
         }
+    }
+
+    private void readAndCompare(int picture, byte[] tape) {
+        TapeMaker.feed(reader, tape);
+        naive.read(picture, tape);
+        Due.is(name + "read", reader.read(picture), naive.about(picture, 1));
+        compare(picture);
+    }
+
+    /** Every number once, with refs to numbers that are near by: long ways, many keepers. */
+    private byte[] makeNet() {
+        List<Integer> numbers = new ArrayList<>();
+        for (int i = 1; i <= most; i++) {
+            numbers.add(i);
+        }
+        java.util.Collections.shuffle(numbers, random);
+        int reach = 1 + random.nextInt(4);
+        int back = random.nextInt(8);
+        TapeMaker tape = new TapeMaker().kind(0, 255, 5, 5);
+        for (int i = 0; i < most; i++) {
+            int[] to = new int[2];
+            for (int k = 0; k < 2; k++) {
+                int step = 1 + random.nextInt(reach);
+                int at = random.nextInt(10) < back ? i - random.nextInt(3) * step : i + step;
+                to[k] = at < 0 || at >= most ? 0 : numbers.get(at);
+            }
+            if (random.nextInt(15) == 0) {
+                tape.soft(numbers.get(i), to[0]);
+            } else {
+                tape.node(numbers.get(i), 0, to);
+            }
+        }
+        tape.root(0, numbers.get(0));
+        for (int i = random.nextInt(3); i > 0; i--) {
+            tape.root(1, number());
+        }
+        return tape.toBytes();
     }
 
     private byte[] makeTape(int mostBytes) {
