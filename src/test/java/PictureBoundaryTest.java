@@ -28,6 +28,7 @@ public final class PictureBoundaryTest {
         aliveRefused();
         keeperIsNone();
         keeperIsTheNearest();
+        keeperLostStepByStep();
         keeperOfACycle();
         keeperRefused();
         keptOfItAlone();
@@ -298,6 +299,27 @@ public final class PictureBoundaryTest {
         PictureReader twice = new TapeMaker().refs(1, 2, 2, 2).refs(2).root(0, 1).root(0, 1)
                 .reader();
         Due.is("many refs of one thing", twice.keeper(0, 2), 1);
+    }
+
+    /** The same: what leads past a keeper is found out step by step, against the order of ways. */
+    private static void keeperLostStepByStep() {
+        // 2 leads to 10 .. 19, each of which leads to the one before it; a longer way, over 30 to
+        // 33, leads to 19: so 2 is the keeper of none of them.
+        TapeMaker tape = new TapeMaker().refs(1, 2, 30)
+                .refs(2, 10, 11, 12, 13, 14, 15, 16, 17, 18, 19).refs(30, 31).refs(31, 32)
+                .refs(32, 33).refs(33, 19).refs(20, 10);
+        for (int i = 10; i <= 19; i++) {
+            tape.refs(i, i - 1);
+        }
+        PictureReader x = tape.root(0, 1).reader();
+        for (int i = 10; i <= 19; i++) {
+            Due.is("keeper of " + i, x.keeper(0, i), 1);
+            Due.is("height of " + i, x.height(0, i), 2);
+            Due.is("kept of " + i, x.kept(0, i), 16);
+        }
+        Due.is("kept of 2", x.kept(0, 2), 12 + 20);
+        Due.is("keeper of 33", x.keeper(0, 33), 32);
+        Due.is("kept of 30", x.kept(0, 30), 64);
     }
 
     /** "of all living things y but x without which .. x would not be alive": not itself */

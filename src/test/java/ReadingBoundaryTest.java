@@ -28,6 +28,8 @@ public final class ReadingBoundaryTest {
         endOfTheTape();
         readOfNothing();
         readAnew();
+        readOverAnother();
+        limitsBeginAnew();
         readRefused();
         aboutEdges();
         eachByteAccountedFor();
@@ -201,6 +203,10 @@ public final class ReadingBoundaryTest {
         Due.is("a root is no ref of a thing", x.alive(0, 1), 1);
         Due.is("all refs lead to 1", x.told(0, 1, 6), 2999);
         Due.is("one is unknown", x.about(0, 9), 1);
+        Due.is("records", x.about(0, 1), 9);
+        Due.is("a hole for each refused one", x.about(0, 4), 4);
+        Due.is("the thing is one of eight bytes", x.hole(0, 0, 1), 8);
+        Due.is("the soft thing is one of five", x.hole(0, 2, 1), 5);
         PictureReader y = new TapeMaker().refs(1, thousand).refs(2, thousand)
                 .refs(3, Records.filled(500, 0)).refs(4, all).soft(5, 4).soft(6, 4).reader();
         Due.is("zeros do not count", y.alive(0, 4), 0);
@@ -405,6 +411,48 @@ public final class ReadingBoundaryTest {
         Due.is("the new one has no parent", x.told(0, 1, 2), 0);
         Due.is("nothing leads to it", x.told(0, 1, 6), 0);
         Due.is("dead", x.alive(0, 1), 0);
+    }
+
+    /** "(what it was before goes)": right from one picture to another, without an empty one */
+    private static void readOverAnother() {
+        PictureReader x = new TapeMaker().kind(0, 255, 5).kind(39, 0).node(1, 0, 2).node(2, 39, 3)
+                .soft(3, 1).root(0, 1).root(0, 3).reader();
+        new TapeMaker().kind(0, 255).thing(7, 0).row(8, 0, 0).refs(9, 7, 8).root(0, 9)
+                .readInto(x, 0);
+        Due.is("kind 0 came again", x.told(0, 7, 2), 0);
+        Due.is("kind 39 went", x.under(0, 39, 39), NONE);
+        Due.is("living", x.about(0, 11), 3);
+        Due.is("way to 7", x.way(0, 7, 0), 2);
+        Due.is("keeper of 7", x.keeper(0, 7), 9);
+        new TapeMaker().refs(1, 2).refs(2, 1).refs(3).readInto(x, 0);
+        for (int thing = 1; thing <= 3; thing++) {
+            Due.is("no root: dead", x.alive(0, thing), 0);
+            Due.is("no root: no way", x.way(0, thing, 0), 0);
+            Due.is("no root: no soft way", x.way(0, thing, 1), 0);
+        }
+    }
+
+    /** The 3000 REFS, 600 THINGS and 100 ROOTS are those of one picture, as it is now. */
+    private static void limitsBeginAnew() {
+        PictureReader x = new PictureReader();
+        for (int p : new int[] {0, 0, 1}) {
+            new TapeMaker().refs(1, Records.filled(1000, 1)).refs(2, Records.filled(550, 1))
+                    .root(0, 1).readInto(x, p);
+            Due.is("1550 refs in picture " + p, x.about(p, 7), 2);
+        }
+        PictureReader y = new PictureReader();
+        for (int p : new int[] {0, 0, 1}) {
+            TapeMaker tape = new TapeMaker();
+            for (int i = 1; i <= 310; i++) {
+                tape.soft(i, 0);
+            }
+            for (int i = 1; i <= 60; i++) {
+                tape.root(0, i);
+            }
+            tape.readInto(y, p);
+            Due.is("310 things in picture " + p, y.about(p, 7), 310);
+            Due.is("60 roots in picture " + p, y.about(p, 8), 60);
+        }
     }
 
     /** "NONE: no such picture (THE TAPE stays)." */
