@@ -191,10 +191,9 @@ public final class PictureReader {
         if (one == null || two == null || how < 0 || how >= RELATIONS) {
             return NONE;
         }
-        Things listed = how == 0 ? two.things : one.things;
         int found = 0;
-        for (int rank = 0; rank < listed.size(); rank++) {
-            if (relation(one.things, two.things, listed.numberByRank(rank)) == how) {
+        for (int rank = 0; rank < MOST_THINGS; rank++) {
+            if (relatedAt(one.things, two.things, how, rank) != NONE) {
                 found++;
             }
         }
@@ -207,11 +206,10 @@ public final class PictureReader {
         if (one == null || two == null || how < 0 || how >= RELATIONS || i < 0) {
             return NONE;
         }
-        Things listed = how == 0 ? two.things : one.things;
         int found = 0;
-        for (int rank = 0; rank < listed.size(); rank++) {
-            int number = listed.numberByRank(rank);
-            if (relation(one.things, two.things, number) == how) {
+        for (int rank = 0; rank < MOST_THINGS; rank++) {
+            int number = relatedAt(one.things, two.things, how, rank);
+            if (number != NONE) {
                 if (found == i) {
                     return number;
                 }
@@ -232,6 +230,13 @@ public final class PictureReader {
 
     private Picture pictureAt(int picture) {
         return picture < 0 || picture >= PICTURES ? null : pictures[picture];
+    }
+
+    /** The number at a rank of the picture that has it in any case, if how is true of it. */
+    private static int relatedAt(Things one, Things two, int how, int rank) {
+        Things listed = how == 0 ? two : one;
+        int number = listed.numberByRank(rank);
+        return number != NONE && relation(one, two, number) == how ? number : NONE;
     }
 
     /** In which of the five ways of differ() a number, which is in one of both, stands in them. */
@@ -256,6 +261,10 @@ public final class PictureReader {
 
     private static boolean isSort(int sort) {
         return sort >= 0 && sort < WIDTHS.length;
+    }
+
+    private static boolean isId(int id) {
+        return id >= 0 && id < MOST_THINGS;
     }
 
     /** The bytes that come, until a picture is read from them. */
@@ -611,7 +620,8 @@ public final class PictureReader {
             int high = count;
             while (low < high) {
                 int middle = (low + high) / 2;
-                if (numbers[byNumber[middle]] < number) {
+                int id = byNumber[middle];
+                if (has(id) && numbers[id] < number) {
                     low = middle + 1;
                 } else {
                     high = middle;
@@ -621,12 +631,12 @@ public final class PictureReader {
         }
 
         int find(int number) {
-            int rank = countBelow(number);
-            return has(rank) && numbers[byNumber[rank]] == number ? byNumber[rank] : NONE;
+            int id = idByRank(countBelow(number));
+            return numberOf(id) == number ? id : NONE;
         }
 
         int numberByRank(int rank) {
-            return has(rank) ? numbers[byNumber[rank]] : NONE;
+            return numberOf(idByRank(rank));
         }
 
         int idByRank(int rank) {
@@ -639,7 +649,7 @@ public final class PictureReader {
             for (int at = 0; at < last; at++) {
                 int target = refs[at] == 0 ? NONE : find(refs[at]);
                 targets[at] = target;
-                if (target != NONE) {
+                if (has(target)) {
                     pointers[target]++;
                 } else if (refs[at] != 0) {
                     unknown++;
@@ -869,7 +879,7 @@ public final class PictureReader {
             line[at] = id;
             count++;
             before[id] = from;
-            distances[id] = from == NONE ? 1 : distances[from] + 1;
+            distances[id] = from == NONE ? 1 : distanceOf(from) + 1;
         }
 
         int size() {
@@ -882,12 +892,12 @@ public final class PictureReader {
 
         /** How many things the way to a thing has; 0: there is no way; NONE: no such thing. */
         int distanceOf(int id) {
-            return id < 0 || id >= MOST_THINGS ? NONE : distances[id];
+            return isId(id) ? distances[id] : NONE;
         }
 
         /** The thing before another one on the way to it; NONE: it begins there. */
         int beforeOf(int id) {
-            return id < 0 || id >= MOST_THINGS ? NONE : before[id];
+            return isId(id) ? before[id] : NONE;
         }
     }
 
@@ -962,7 +972,7 @@ public final class PictureReader {
         }
 
         private int keeperIdOf(int id) {
-            return id < 0 || id >= MOST_THINGS ? NONE : keepers[id];
+            return isId(id) ? keepers[id] : NONE;
         }
 
         /** In the line of the ways each keeper stands before all that it keeps. */
@@ -972,13 +982,15 @@ public final class PictureReader {
                 int id = spread.idAt(at);
                 int keeper = keeperIdOf(id);
                 sizes += things.sizeOf(id);
-                heights[id] = keeper == NONE ? 1 : heights[keeper] + 1;
+                if (isId(id)) {
+                    heights[id] = isId(keeper) ? heights[keeper] + 1 : 1;
+                }
             }
             for (int at = spread.size() - 1; at >= 0; at--) {
                 int id = spread.idAt(at);
                 int keeper = keeperIdOf(id);
-                if (keeper != NONE) {
-                    kepts[keeper] += kepts[id];
+                if (isId(keeper)) {
+                    kepts[keeper] += keptOf(id);
                 }
             }
         }
@@ -990,7 +1002,7 @@ public final class PictureReader {
                 int id = things.idByRank(next);
                 if (lives(id) && count < MOST_THINGS) {
                     int at = count;
-                    while (at > 0 && kepts[ranking[at - 1]] < kepts[id]) {
+                    while (at > 0 && keptOf(ranking[at - 1]) < kepts[id]) {
                         ranking[at] = ranking[at - 1];
                         at--;
                     }
@@ -1009,7 +1021,7 @@ public final class PictureReader {
         }
 
         boolean lives(int id) {
-            return id >= 0 && id < MOST_THINGS && heights[id] > 0;
+            return isId(id) && heights[id] > 0;
         }
 
         /** The number of the keeper of a living thing. */
